@@ -1,11 +1,42 @@
+import java.io.IOException;
+import java.io.UncheckedIOException;
+import java.nio.file.Files;
+import java.nio.file.Path;
+
 /** Counts and prints the answers that are not as due; a test ends with {@link #end()}. */
 final class Checks {
-    private static final int MOST_PRINTED = 50;
+    private static final int MOST_PRINTED_OF_A_SENTENCE = 20;
+    private static final Path DOCUMENT = Path.of("../shared/DOC.md");
 
+    private static String document = null;
+    private static String sentence = "";
     private static int checked = 0;
     private static int wrong = 0;
+    private static int printed = 0;
 
     private Checks() {}
+
+    /**
+     * The words of the document that the checks from here on hold the program to. They must stand
+     * there word for word, so that no test outlives the sentence that it is of.
+     */
+    static void sentence(String words) {
+        sentence = "";
+        printed = 0;
+        due("whether the document says '" + words + "'", document().contains(words), true);
+        sentence = "'" + words + "': ";
+    }
+
+    private static String document() {
+        if (document == null) {
+            try {
+                document = Files.readString(DOCUMENT);
+            } catch (IOException unread) {
+                throw new UncheckedIOException(unread);
+            }
+        }
+        return document;
+    }
 
     static void due(String call, long got, long want) {
         checked++;
@@ -64,8 +95,9 @@ final class Checks {
 
     private static void tell(String what) {
         wrong++;
-        if (wrong <= MOST_PRINTED) {
-            System.out.println(what);
+        printed++;
+        if (printed <= MOST_PRINTED_OF_A_SENTENCE) {
+            System.out.println(sentence + what);
         }
     }
 }
